@@ -3,6 +3,7 @@ public final class CellTest {
   public static void main(String[] args) {
     sites();
     put();
+    putTheLast();
     putWrong();
     kinds();
     loads();
@@ -33,6 +34,11 @@ public final class CellTest {
       Check.due("fell of a new site", city.fell(site), 0);
     }
     Check.fails("a fourth site", city, Check.STATE, city::site);
+    for (int site = 3; site < 6; site++) {
+      final int none = site;
+      Check.fails("no site " + site, city, Check.INDEX, () -> city.fell(none));
+      Check.fails("no place at site " + site, city, Check.INDEX, () -> city.at(none, 0, 0));
+    }
     Check.due("sites cost nothing", city.money(), 0);
   }
 
@@ -52,6 +58,30 @@ public final class CellTest {
     Check.due("another site is empty", city.site(), 1);
     Check.due("its count", city.count(1), 0);
     Check.due("its place", city.at(1, 0, 0), '.');
+  }
+
+  /** What there is just enough of is enough. */
+  private static void putTheLast() {
+    Snowpalace city = Check.mixedStock();
+    for (int place = 0; place < 32; place++) {
+      city.put(0, place % 8, place / 8, 'i');
+    }
+    city.site();
+    for (int place = 0; place < 47; place++) {
+      city.put(1, place % 8, place / 8, 'i');
+    }
+    Check.due("one block is left", city.yard(false), 1);
+    Check.due("it is put", city.put(1, 7, 5, 'i'), 48);
+    Check.fails("none is left", city, Check.STATE, () -> city.put(0, 0, 4, 'i'));
+    Snowpalace snowy = new Snowpalace();
+    snowy.site();
+    snowy.lorries(4);
+    for (int x = 0; x < 4; x++) {
+      snowy.put(0, x, 0, 's');
+    }
+    Check.due("4 snow", snowy.snow(), 4);
+    Check.due("is enough", snowy.put(0, 4, 0, 's'), 5);
+    Check.due("none is left", snowy.snow(), 0);
   }
 
   private static int put4(Snowpalace city) {
@@ -177,6 +207,28 @@ public final class CellTest {
     Check.due("on an arch", city.put(0, 3, 2, 's'), 11);
     Check.due("beside it on a foot", city.put(0, 2, 2, 's'), 12);
     Check.fails("an edge is no arch", city, Check.UNSUPPORTED, () -> city.put(0, 7, 3, 's'));
+    archAtTheEdges();
+  }
+
+  private static void archAtTheEdges() {
+    Snowpalace city = Check.mixedStock();
+    Check.column(city, 0, 2, 'i');
+    Check.column(city, 2, 2, 'i');
+    Check.due("arch at x 1", city.put(0, 1, 1, 'i'), 5);
+    Check.column(city, 5, 2, 'i');
+    Check.column(city, 7, 2, 'i');
+    Check.due("arch at x 6", city.put(0, 6, 1, 'i'), 10);
+    Check.due("its load goes left", city.load(0, 5, 1), 675);
+    Check.due("its load goes right", city.load(0, 7, 1), 675);
+    Check.due("sound at the edges", city.isSound(), true);
+    Snowpalace row = Check.mixedStock();
+    Check.column(row, 7, 2, 'i');
+    Check.column(row, 1, 3, 'i');
+    Check.fails("x 7 below is not left of x 0", row, Check.UNSUPPORTED, () -> row.put(0, 0, 2, 'i'));
+    Snowpalace back = Check.mixedStock();
+    Check.column(back, 6, 2, 'i');
+    Check.column(back, 0, 3, 'i');
+    Check.fails("x 0 above is not right of x 7", back, Check.UNSUPPORTED, () -> back.put(0, 7, 1, 'i'));
   }
 
   private static void strength() {
@@ -251,6 +303,11 @@ public final class CellTest {
     city.take(0, 4, 1);
     city.put(0, 4, 1, 's');
     Check.due("creep of a new cell there", city.creep(0, 4, 1), 0);
+    Snowpalace colder = Check.clearStock();
+    colder.weather(1, -101, -101, 0, 100);
+    colder.put(0, 0, 0, 'c');
+    colder.go(1);
+    Check.due("500 times 199 is cut to nothing", colder.creep(0, 0, 0), 0);
     Snowpalace cold = new Snowpalace();
     cold.weather(0, -400, -300, 0, 100);
     cold.weather(1, -290, -290, 0, 100);
@@ -390,6 +447,7 @@ public final class CellTest {
     Check.due("to the hour 14", city.mass(0, 4, 0), 290);
     city.go(33);
     Check.due("no longer", city.mass(0, 4, 0), 290);
+    edges();
     Snowpalace cold = wall(-100, -100, 0);
     cold.go(24);
     Check.due("no sun at -100", cold.mass(0, 4, 0), 300);
@@ -399,6 +457,25 @@ public final class CellTest {
     Snowpalace more = wall(-80, -80, 0);
     more.go(24);
     Check.due("20 by 20 five times", more.mass(0, 4, 0), 295);
+  }
+
+  /** The rows do not go round: x 0 has nothing left of it, x 7 nothing right of it. */
+  private static void edges() {
+    Snowpalace city = new Snowpalace();
+    city.weather(0, -60, -60, 10, 100);
+    city.site();
+    city.lorries(20);
+    city.put(0, 0, 0, 's');
+    city.put(0, 0, 1, 's');
+    city.put(0, 1, 0, 's');
+    city.put(0, 6, 0, 's');
+    city.put(0, 7, 0, 's');
+    city.go(15);
+    Check.due("x 0 with a cell right has wind", city.mass(0, 0, 0), 270);
+    Check.due("x 1 with a cell left has sun", city.mass(0, 1, 0), 290);
+    Check.due("x 6 with a cell right has wind", city.mass(0, 6, 0), 270);
+    Check.due("x 7 with a cell left has sun", city.mass(0, 7, 0), 290);
+    Check.due("x 0 above has both", city.mass(0, 0, 1), 260);
   }
 
   private static void wind() {

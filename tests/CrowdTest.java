@@ -191,6 +191,16 @@ public final class CrowdTest {
     city.carve(0, 0, 0, 0);
     city.put(0, 0, 0, 'c');
     Check.due("open with a new cell", city.isOpen(0), true);
+    Snowpalace slow = Check.clearStock();
+    slow.put(0, 0, 0, 'c');
+    for (int i = 0; i < 4; i++) {
+      slow.go(48);
+    }
+    slow.go(7);
+    Check.due("1 an hour", slow.creep(0, 0, 0), 199);
+    Check.due("open with 199", slow.isOpen(0), true);
+    slow.go(1);
+    Check.due("not with 200", slow.isOpen(0), false);
   }
 
   private static void carries() {
@@ -216,6 +226,12 @@ public final class CrowdTest {
     city.put(0, 6, 1, 'c');
     city.put(0, 6, 2, 'c');
     Check.due("not open: none", city.carries(0, 2), 0);
+    Snowpalace high = Check.mixedStock();
+    Check.column(high, 0, 5, 'i');
+    high.put(0, 0, 5, 's');
+    Check.due("the highest place: 6000 by 2 less 2550, by 70", high.carries(0, 0), 6);
+    Check.column(high, 2, 1, 'i');
+    Check.due("a column beside", high.carries(0, 2), 36);
     Check.due("not open itself: none", city.carries(0, 6), 0);
   }
 

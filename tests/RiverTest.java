@@ -95,6 +95,14 @@ public final class RiverTest {
       hours++;
     }
     Check.due("bears from 250 on", slow.bears(2), true);
+    Snowpalace below = always(-383);
+    below.go(10);
+    Check.due("249 to the millimetre", below.ice(0), 249);
+    Check.due("249 does not bear", below.bears(0), false);
+    Snowpalace exact = always(-384);
+    exact.go(10);
+    Check.due("250 to the millimetre", exact.ice(0), 250);
+    Check.due("250 bears", exact.bears(0), true);
     city.go(14);
     city.cut(0, 20);
     Check.due("20 places left bear", city.bears(0), true);
@@ -146,6 +154,10 @@ public final class RiverTest {
     city.cut(2, 18);
     city.cut(2, 1);
     Check.due("20 of 21", city.cut(2, 20), 1);
+    Snowpalace below = always(-384);
+    below.go(13);
+    Check.due("299 to the millimetre", below.ice(0), 299);
+    Check.fails("cut of 299", below, Check.UNSUPPORTED, () -> below.cut(0, 1));
     Snowpalace exact = always(-99);
     for (int i = 0; exact.ice(0) < 300 && i < 100; i++) {
       exact.go(1);
@@ -156,8 +168,17 @@ public final class RiverTest {
     Check.due("nor counted as clear", exact.yard(true), 0);
   }
 
-  /** Blocks are clear from two thirds on; the exact edge is looked for among many weathers. */
+  /** Blocks are clear from two thirds on, told at the exact edge and then in many weathers. */
   private static void clearShare() {
+    Snowpalace exact = new Snowpalace();
+    exact.weather(0, -97, -97, 0, 100);
+    exact.weather(1, -400, -400, 0, 100);
+    exact.go(45);
+    Check.due("all ice at the edge", exact.ice(0), 483);
+    Check.due("clear ice at the edge", exact.clear(0), 322);
+    exact.cut(0, 3);
+    Check.due("two thirds are clear", exact.yard(true), 3);
+    Check.due("and not the others", exact.yard(false), 0);
     int clearEdges = 0;
     int otherEdges = 0;
     for (int low = -160; low < -100; low++) {

@@ -645,7 +645,7 @@ public final class Snowpalace {
         if (!each.covered) {
           funds -= FALL_COST * each.wear(clock % DAY_HOURS, warmth, sky.windOf(clock));
         }
-        letFall(each);
+        funds -= FALL_COST * each.settle(warmth);
         each.growOld(warmth);
       }
     }
