@@ -5,10 +5,12 @@ import java.util.ArrayList;
 import java.util.Arrays;
 import java.util.List;
 import java.util.TreeSet;
+import java.util.regex.Matcher;
+import java.util.regex.Pattern;
 
 /**
- * For tests of single sentences: each stands under the document's own words, and a ledger tells at the end which ranges
- * and which exceptions of the document have no test.
+ * For tests of single sentences: each stands under the document's own words, and a ledger tells at the end which words,
+ * which ranges and which exceptions of the document have no test.
  */
 final class Edge {
   /** Makes the same city each time, so that a refused call on one can be held against one without that call. */
@@ -39,10 +41,20 @@ final class Edge {
   /** Places that the cities corners and nearlyCorners are made for: the lowest and the highest row, both ends. */
   private static final int[][] CORNERS = {{0, 0, 0}, {0, 7, 0}, {2, 0, 5}, {2, 7, 5}};
 
+  /** What of the document is not for a test of a sentence: the face, which FaceTest holds the program against, and what is free. */
+  private static final String[] NO_SENTENCES = {"# Snowpalace", "## What it is", "; what later calls answer is free.",
+      "## The public face\\s+```java.*?```", "## Terms", "<h2>[^<]*</h2>", "## Promise \\d+: [^\\n]*", "(?<=\\n)`[^`]*\\)( throws [^`]*)?`:",
+      "## Not promised.*"};
+  /** Lines that the ledger of ranges and exceptions asks for, method by method. */
+  private static final String[] LEDGER_LINES = {"- `(site|x|y)`: [^\\n]*", "- `\\w+`: [^\\n]* to [^\\n]*", "Throws `[^\\n]*"};
+
   private static final TreeSet<String> tested = new TreeSet<>();
   private static String doc = "";
   private static String plainDoc = "";
+  /** By the signs of plainDoc: whether a sentence that was tested holds it. */
+  private static boolean[] told = new boolean[0];
   private static String words = "";
+  private static int asked = 1;
   private static int sentences = 0;
 
   private Edge() {
@@ -51,6 +63,7 @@ final class Edge {
   static void read(Path file) throws IOException {
     doc = Files.readString(file);
     plainDoc = plain(doc);
+    told = new boolean[plainDoc.length()];
   }
 
   private static String plain(String text) {
@@ -59,12 +72,37 @@ final class Edge {
 
   /** The sentence, or the part of it, that what follows tests; it must stand in the document word by word. */
   static void sentence(String said) {
-    words = said;
-    sentences++;
+    begin(said);
     Check.due("the document says: " + said, plainDoc.contains(plain(said)), true);
+    int promises = plainDoc.indexOf(" ## Promise 1:");
+    boolean isOnce = plainDoc.indexOf(plain(said)) == plainDoc.lastIndexOf(plain(said));
+    tell(plain(said), 0, isOnce ? plainDoc.length() : promises);
+  }
+
+  /** As sentence, of words that a promise says, perhaps as others do. */
+  static void promise(int number, String said) {
+    begin(number + ": " + said);
+    int from = plainDoc.indexOf("## Promise " + number + ":");
+    int to = plainDoc.indexOf(" ## ", from);
+    Check.due("the promise " + number + " says: " + said, from >= 0 && plainDoc.substring(from, to).contains(plain(said)), true);
+    tell(plain(said), Math.max(0, from), to);
+  }
+
+  private static void begin(String said) {
+    Check.due("a test of: " + words, asked > 0, true);
+    words = said;
+    asked = 0;
+    sentences++;
+  }
+
+  private static void tell(String said, int from, int to) {
+    for (int at = plainDoc.indexOf(said, from); at >= 0 && at + said.length() <= to; at = plainDoc.indexOf(said, at + 1)) {
+      Arrays.fill(told, at, at + said.length(), true);
+    }
   }
 
   static void due(String what, Object got, Object want) {
+    asked++;
     Check.due("[" + words + "] " + what, got, want);
   }
 
@@ -332,8 +370,22 @@ final class Edge {
 
   // ---- the ledger
 
-  /** Each range and each exception that a promise lists must have been tested, and each two exceptions in their order. */
+  /**
+   * Each sentence must have been tested, each range and each exception that a promise lists, and each two exceptions in
+   * their order.
+   */
   static void ledger() {
+    begin("nothing more");
+    noSentences();
+    for (int at = 0; at < told.length; at++) {
+      int to = at;
+      while (to < told.length && !told[to]) {
+        to++;
+      }
+      String untold = plainDoc.substring(at, to);
+      Check.due("a test of the words: " + untold, untold.chars().anyMatch(Character::isLetterOrDigit), false);
+      at = to;
+    }
     int promises = 0;
     for (String promise : doc.substring(doc.indexOf("## Promise 1:")).split("## Promise ")) {
       if (!promise.isBlank()) {
@@ -344,6 +396,21 @@ final class Edge {
     }
     Check.due("promises in the ledger", promises, 44);
     System.out.println(sentences + " sentences, " + tested.size() + " ranges, exceptions and orders of exceptions");
+  }
+
+  private static void noSentences() {
+    List<String> all = new ArrayList<>(List.of(NO_SENTENCES));
+    all.addAll(List.of(LEDGER_LINES));
+    for (String each : all) {
+      Matcher found = Pattern.compile(each, Pattern.DOTALL).matcher(doc);
+      int times = 0;
+      while (found.find()) {
+        int at = plain(doc.substring(0, found.start())).length();
+        Arrays.fill(told, at, Math.min(told.length, at + plain(found.group()).length()), true);
+        times++;
+      }
+      Check.due("the document holds " + each, times > 0, true);
+    }
   }
 
   private static void ledgerOf(String method, String promise) {

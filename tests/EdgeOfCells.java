@@ -242,6 +242,8 @@ final class EdgeOfCells {
   }
 
   private static void putOrder() {
+    Edge.sentence("A method that throws an exception changes nothing.");
+    Edge.refused("put", Check.UNSUPPORTED, Edge::lively, city -> city.put(0, 1, 0, 's'));
     Edge.sentence("If several exceptions apply, the one that is listed first is thrown.");
     Edge.first("put", Check.INDEX, Check.ARGUMENT, Edge::lively, city -> city.put(0, 8, 0, 'x'));
     Edge.refused("put", Check.INDEX, Edge::lively, city -> city.put(3, 0, 0, '.'));
@@ -371,7 +373,19 @@ final class EdgeOfCells {
   }
 
   private static void ages() {
-    Edge.sentence("10 more for each hour of its age, 48 of them at most");
+    Edge.sentence("The strength is that of its kind, 10 more for each hour of its age, 48 of them at most");
+    Snowpalace kinds = Check.mixedStock();
+    kinds.put(0, 0, 0, 's');
+    kinds.put(0, 1, 0, 'i');
+    kinds.put(0, 2, 0, 'c');
+    int[] ofKinds = {2500, 6000, 5000};
+    for (int x = 0; x < 3; x++) {
+      Edge.due("new", kinds.strength(0, x, 0), ofKinds[x]);
+    }
+    kinds.go(30);
+    for (int x = 0; x < 3; x++) {
+      Edge.due("30 hours later", kinds.strength(0, x, 0), ofKinds[x] + 300);
+    }
     int[][] cases = {{0, 2500}, {1, 2510}, {47, 2970}, {48, 2980}, {49, 2980}, {480, 2980}, {504, 2980}};
     for (int[] c : cases) {
       Snowpalace city = Edge.after(() -> {
@@ -466,10 +480,13 @@ final class EdgeOfCells {
 
   private static void lastFell() {
     Edge.sentence("each such time some fall at once.");
+    Snowpalace times = two(0, 2, 7, 3);
+    times.carve(0, 7, 0, 0);
+    Edge.due("15, then 23", times.lastFell(0), 23);
+    Edge.sentence("Returns where a cell fell last, of those that fell at once that time the one with the greatest place.");
     Snowpalace city = two(3, 2, 5, 2);
     city.put(0, 4, 1, 's');
     city.carve(0, 3, 0, 0);
-    Edge.sentence("of those that fell at once that time the one with the greatest place.");
     Edge.due("11 and 12 at once", city.lastFell(0), 12);
     Snowpalace right = two(3, 2, 5, 2);
     right.put(0, 4, 1, 's');

@@ -93,11 +93,12 @@ final class EdgeOfCrowds {
   }
 
   private static void lightOfOne() {
-    Edge.sentence("what each cell from that of the lamp to the place, both included, lets through");
+    Edge.sentence("each 1, times what each cell from that of the lamp to the place, both included, lets through");
     Snowpalace city = threeKinds();
     city.lamp(0, 0, 0, true);
     light(city, 0, 0, 0.75f);
     light(city, 1, 0, 0.75f * 0.5f);
+    Edge.sentence("the strength 2500, and letting through a fourth of light; 'i' of a block, 450, 6000, a half");
     light(city, 2, 0, 0.75f * 0.5f * 0.25f);
     Edge.sentence("places without a cell let all through.");
     light(city, 3, 0, 0.75f * 0.5f * 0.25f);
@@ -221,7 +222,6 @@ final class EdgeOfCrowds {
   }
 
   private static void openByStrength() {
-    Edge.sentence("the strength of a cell in this hour");
     Edge.sentence("no load times 2 is above the strength");
     Snowpalace city = Edge.snowy();
     city.put(0, 0, 0, 's');
@@ -355,7 +355,7 @@ final class EdgeOfCrowds {
     Edge.range("squareBits", "drop", Check.ARGUMENT, 1, 20, Edge::lively, (city, drop) -> city.squareBits(drop, 5, true));
     Edge.sentence("`length`: 5 to 60");
     Edge.range("squareBits", "length", Check.ARGUMENT, 5, 60, Edge::lively, (city, length) -> city.squareBits(1, length, false));
-    Edge.sentence("as doubles, the product of 2.0 and 9.81, times a number: the drop less the product of the rub and the length");
+    Edge.sentence("The square of the speed of a slide is, as doubles, the product of 2.0 and 9.81, times a number: the drop less the product of the rub and the length");
     Snowpalace city = new Snowpalace();
     slide(city, 1, 5, false, 2.0 * 9.81 * (1.0 - 0.05 * 5.0));
     slide(city, 1, 5, true, 2.0 * 9.81 * (1.0 - 0.1 * 5.0));

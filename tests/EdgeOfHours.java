@@ -110,7 +110,10 @@ final class EdgeOfHours {
   }
 
   private static void windStrength() {
-    Edge.sentence("and a wind of 10 or more, each cell without one left of it a fifth of the wind, cut");
+    Edge.sentence("then, if there is no cover, and a wind of 10 or more, each cell without one left of it a fifth of the wind, cut");
+    Snowpalace covered = lone(-200, -200, 30);
+    covered.cover(0, true);
+    Edge.due("an hour of the wind 30 under a cover", massAfter(covered, 1), 300);
     int[][] cases = {{0, 0}, {5, 0}, {9, 0}, {10, 2}, {14, 2}, {15, 3}, {29, 5}, {30, 6}};
     for (int[] c : cases) {
       Edge.due("an hour of the wind " + c[0], massAfter(lone(-200, -200, c[0]), 1), 300 - c[1]);
@@ -265,7 +268,23 @@ final class EdgeOfHours {
   }
 
   private static void strengthOfTheHour() {
-    Edge.sentence("In each hour, by the warmth of the hour that begins");
+    Edge.sentence("In each hour, by the warmth of the hour that begins, the river and the snow come first");
+    Snowpalace hour = Edge.always(0);
+    hour.weather(1, -100, -100, 0, 100);
+    hour.weather(2, 100, 100, 0, 100);
+    hour.machine(true);
+    hour.go(24);
+    Edge.due("as the hour 24 begins no ice", hour.ice(0), 0);
+    Edge.due("nor snow", hour.snow(), 0);
+    hour.go(1);
+    Edge.due("in the hour 24 ice", hour.ice(0), 10);
+    Edge.due("and snow", hour.snow(), 2);
+    hour.go(23);
+    int ice = hour.ice(0);
+    Edge.due("as the hour 48 begins snow of a day", hour.snow(), 48);
+    hour.go(1);
+    Edge.due("in the hour 48 less ice", hour.ice(0), ice - 10);
+    Edge.due("and no more snow", hour.snow(), 48);
     Snowpalace just = heavy(-49);
     Edge.due("an hour old", just.strength(0, 0, 0), 2500);
     just.go(1);

@@ -188,8 +188,8 @@ final class EdgeOfTeams {
   }
 
   private static void judging() {
-    Edge.sentence("is the number of places that are as they are to be, divided by 48, less 0.05 times how many cells fell there so far, "
-        + "as doubles");
+    Edge.sentence("the mark of a site, as it is judged, is the number of places that are as they are to be, divided by 48, less 0.05 "
+        + "times how many cells fell there so far, as doubles");
     Snowpalace city = Edge.snowy();
     Edge.due("48 places", city.judge(0), 1.0);
     city.plan(0, 7, 5, true);

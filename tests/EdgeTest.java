@@ -1,7 +1,7 @@
 import java.io.IOException;
 import java.nio.file.Path;
 
-/** Each sentence of the document that names a boundary case, in the document's order; then the ledger of what has a test. */
+/** Each sentence of the document, the boundary cases it names first, in the document's order; then the ledger of what has a test. */
 public final class EdgeTest {
   public static void main(String[] args) throws IOException {
     if (args.length < 2) {
@@ -16,6 +16,7 @@ public final class EdgeTest {
     EdgeOfCrowds.run();
     EdgeOfTeams.run();
     EdgeOfCity.run();
+    EdgeOfPromises.run();
     Edge.ledger();
     Check.end();
   }
